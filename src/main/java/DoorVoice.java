@@ -8,7 +8,7 @@ public final class DoorVoice {
     private static final int LETTERS = 6;
     private static final int FACTS = 8;
     private static final int ALL_FACTS = 255;
-    private static final int ALL_KEYS = 4095;
+    private static final int ALL_HOUSES = 4095;
     private static final int ALL_LETTERS = 63;
     private static final int THICKEST = 9;
     private static final int LOUDEST = 40;
@@ -85,7 +85,7 @@ public final class DoorVoice {
 
     public int letter(int letter, int house, int plain, int cipher, int keys) {
         if (!within(letter, 0, LETTERS - 1)) return UNKNOWN;
-        if (!within(house, 0, HOUSES - 1) || !within(keys, 0, ALL_KEYS)) return OUTSIDE;
+        if (!within(house, 0, HOUSES - 1) || !within(keys, 0, ALL_HOUSES)) return OUTSIDE;
         if (!within(plain, 0, ALL_FACTS) || !within(cipher, 0, ALL_FACTS)) return OUTSIDE;
         int was = now.forWhom[letter];
         now.forWhom[letter] = house;
@@ -114,12 +114,12 @@ public final class DoorVoice {
     public int judge(int what) {
         if (!within(what, 0, 1)) return OUTSIDE;
         if (pad.faultPlace() != NONE) return NO;
-        playOnTrial();
+        pad.playsToTheEnd(now, trial);
         return what == 0 ? pad.stop : pad.why;
     }
 
     public int done() {
-        if (!playsToTheEnd()) return NO;
+        if (!pad.playsToTheEnd(now, trial)) return NO;
         now.takeFrom(trial);
         pad.clean();
         return pad.acts;
@@ -127,28 +127,17 @@ public final class DoorVoice {
 
     public int knows(int house) {
         if (!within(house, 0, HOUSES - 1)) return UNKNOWN;
-        if (!playsToTheEnd()) return NO;
+        if (!pad.playsToTheEnd(now, trial)) return NO;
         return trial.facts[house];
     }
 
     public int behind(int what) {
         if (!within(what, 0, 3)) return OUTSIDE;
-        if (!playsToTheEnd()) return NO;
+        if (!pad.playsToTheEnd(now, trial)) return NO;
         if (what == 0) return trial.place;
         if (what == 1) return trial.day;
         if (what == 2) return trial.read;
         return pad.astray;
-    }
-
-    private boolean playsToTheEnd() {
-        if (pad.faultPlace() != NONE) return false;
-        playOnTrial();
-        return pad.stop == NONE;
-    }
-
-    private void playOnTrial() {
-        trial.takeFrom(now);
-        pad.play(trial);
     }
 
     public int who(int fact) {
@@ -169,7 +158,7 @@ public final class DoorVoice {
 
     public int hears(int at) {
         if (!within(at, 0, HOUSES - 1)) return UNKNOWN;
-        return now.hearers(at);
+        return now.hearers(at, now.open);
     }
 
     public int best(int letter, int what) {
@@ -312,6 +301,7 @@ public final class DoorVoice {
     /** All that an IMAGE keeps: the houses, walls and letters, where he stands, the day, the sights. */
     private static final class Street {
         private static final int HEARD_THROUGH_SHUT_WINDOW = 3;
+        private static final int HEARD_THROUGH_OPEN_WINDOW = 1;
         private static final int THICKEST_TO_TELL_THROUGH = 4;
 
         final int[] facts = new int[HOUSES];
@@ -353,28 +343,40 @@ public final class DoorVoice {
 
         int loudness(int from, int house) {
             int left = voice;
-            for (int h = from; h < house; h++) left = fainter(left, walls[h] + 1 - wind);
-            for (int h = from; h > house; h--) left = fainter(left, walls[h - 1] + 1 + wind);
-            return left;
+            for (int h = from; h < house; h++) {
+                int loss = walls[h] + 1 - wind;
+                if (loss > 0) left -= loss;
+            }
+            for (int h = from; h > house; h--) {
+                int loss = walls[h - 1] + 1 + wind;
+                if (loss > 0) left -= loss;
+            }
+            return Math.max(0, left);
         }
 
-        private static int fainter(int before, int loss) {
-            return loss <= 0 ? before : Math.max(0, before - loss);
-        }
-
-        int hearers(int from) {
-            int bits = 0;
-            for (int h = 0; h < HOUSES; h++) {
-                if (isHeard(from, h)) bits |= 1 << h;
+        /** The HOUSE where one reads, who is heard there however low, and those at which he is so loud at least. */
+        private int reached(int from, int least) {
+            int bits = 1 << from;
+            int left = voice;
+            for (int h = from + 1; h < HOUSES; h++) {
+                int loss = walls[h - 1] + 1 - wind;
+                if (loss > 0) left -= loss;
+                if (left >= least) bits |= 1 << h;
+            }
+            left = voice;
+            for (int h = from - 1; h >= 0; h--) {
+                int loss = walls[h] + 1 + wind;
+                if (loss > 0) left -= loss;
+                if (left >= least) bits |= 1 << h;
             }
             return bits;
         }
 
-        private boolean isHeard(int from, int house) {
-            if (hasBit(deaf, house)) return false;
-            if (from == house) return true;
-            int left = loudness(from, house);
-            return left >= HEARD_THROUGH_SHUT_WINDOW || (left >= 1 && hasBit(open, house));
+        /** HOUSES that HEAR it, if these windows are open and no others. */
+        int hearers(int from, int openWindows) {
+            int loudly = reached(from, HEARD_THROUGH_SHUT_WINDOW);
+            int faintly = reached(from, HEARD_THROUGH_OPEN_WINDOW) & openWindows;
+            return (loudly | faintly) & ~deaf;
         }
 
         /** Why an ACT can not be: 0 if it can. */
@@ -393,7 +395,7 @@ public final class DoorVoice {
         }
 
         private void readOut(int letter) {
-            int bits = hearers(place);
+            int bits = hearers(place, open);
             for (int h = 0; h < HOUSES; h++) {
                 if (!hasBit(bits, h)) continue;
                 facts[h] |= plain[letter];
@@ -516,8 +518,10 @@ public final class DoorVoice {
             return kind == READ ? sign - '0' : 0;
         }
 
-        /** Plays the text, which must have no FAULT, up to the first ACT that can not be. */
-        void play(Street street) {
+        /** Plays the text on a street made like another one, if it has no FAULT, up to the first ACT that can not be. */
+        boolean playsToTheEnd(Street from, Street street) {
+            if (faultPlace() != NONE) return false;
+            street.takeFrom(from);
             acts = 0;
             stop = NONE;
             why = NONE;
@@ -527,6 +531,7 @@ public final class DoorVoice {
                 if (kind == WINDOW && i + 1 < count) i++;
                 playAct(street, kind, numberOf(signs[i]));
             }
+            return stop == NONE;
         }
 
         private void playAct(Street street, int kind, int n) {
@@ -542,7 +547,7 @@ public final class DoorVoice {
         }
 
         private static boolean goesAstray(Street street, int letter) {
-            return !hasBit(street.hearers(street.place), street.forWhom[letter]);
+            return !hasBit(street.hearers(street.place, street.open), street.forWhom[letter]);
         }
     }
 
@@ -552,7 +557,7 @@ public final class DoorVoice {
         private final int[] placesHeardBy = new int[HOUSES];
 
         void listen(Street street) {
-            for (int from = 0; from < HOUSES; from++) hearersAt[from] = street.hearers(from);
+            for (int from = 0; from < HOUSES; from++) hearersAt[from] = street.hearers(from, street.open);
             for (int house = 0; house < HOUSES; house++) placesHeardBy[house] = placesFor(house);
         }
 
@@ -655,14 +660,11 @@ public final class DoorVoice {
         long lower = 1;
 
         void weigh(Street street, int from) {
-            sure = 0;
-            unsure = 0;
-            for (int h = 0; h < HOUSES; h++) {
-                if (h == from || hasBit(street.deaf, h)) continue;
-                int left = street.loudness(from, h);
-                if (left >= Street.HEARD_THROUGH_SHUT_WINDOW) sure++;
-                else if (left >= 1) unsure++;
-            }
+            int others = ~(1 << from);
+            int ifAllAreShut = street.hearers(from, 0) & others;
+            int ifAllAreOpen = street.hearers(from, ALL_HOUSES) & others;
+            sure = Integer.bitCount(ifAllAreShut);
+            unsure = Integer.bitCount(ifAllAreOpen) - sure;
         }
 
         void findMean(int tenths) {

@@ -118,6 +118,8 @@ public final class DoorVoicePromises {
         due("the WIND stays", x.told(8), 6);
         due("set(2, 11)", x.set(2, 11), 0);
         due("set(2, 11) again", x.set(2, 11), 11);
+        due("set(2, 0)", x.set(2, 0), 11);
+        due("set(2, 11) anew", x.set(2, 11), 0);
         due("set(2, 12)", x.set(2, 12), OUTSIDE);
         due("set(2, -1)", x.set(2, -1), OUTSIDE);
         due("HE stays", x.told(1), 11);
@@ -293,6 +295,7 @@ public final class DoorVoicePromises {
         due("knows: the deaf do not", x.knows(6), 2);
         due("knows: but tell", x.knows(7), 2);
         due("knows: and back", x.knows(5), 11);
+        due("knows(11)", x.knows(11), 0);
         due("knows(12)", x.knows(12), UNKNOWN);
         due("knows(-1)", x.knows(-1), UNKNOWN);
         write(x, "a");
@@ -357,6 +360,12 @@ public final class DoorVoicePromises {
         due("loud: 0 at least", x.loud(11, 0), 0);
         x.house(4, false, true, 0);
         due("loud: at a DEAF one's, too", x.loud(3, 4), 20);
+        due("loud(11, 11)", x.loud(11, 11), 20);
+        x.set(1, 1);
+        due("loud: neither more nor less", x.loud(0, 3), 20);
+        due("loud: less by the WALL alone", x.loud(3, 4), 18);
+        x.set(1, 0);
+        due("loud: 1 less each", x.loud(3, 0), 17);
         due("loud(12, 0)", x.loud(12, 0), UNKNOWN);
         due("loud(0, 12)", x.loud(0, 12), UNKNOWN);
         due("loud(-1, 0)", x.loud(-1, 0), UNKNOWN);
@@ -367,6 +376,8 @@ public final class DoorVoicePromises {
     private static void hears() {
         DoorVoice x = new DoorVoice();
         due("hears: 3 loud beside", x.hears(5), 0b1110000);
+        due("hears: at the west end", x.hears(0), 0b11);
+        due("hears: at the east end", x.hears(11), 0b110000000000);
         x.house(7, true, false, 0);
         x.house(8, true, false, 0);
         x.house(9, true, false, 0);
@@ -398,6 +409,9 @@ public final class DoorVoicePromises {
         x.house(5, true, true, 0);
         due("best: FOR a DEAF one", x.best(3, 0), NONE);
         due("best: nowhere", x.best(3, 1), NONE);
+        x.letter(5, 0, 0, 0, 0);
+        due("best: at the west end", x.best(5, 0), 1);
+        due("best: the end itself", x.best(5, 1), 0);
         due("best(6, 2)", x.best(6, 2), UNKNOWN);
         due("best(-1, 0)", x.best(-1, 0), UNKNOWN);
         due("best(0, 2)", x.best(0, 2), OUTSIDE);
@@ -470,6 +484,8 @@ public final class DoorVoicePromises {
         due("seen: the 9th", x.seen(0, true), FULL);
         due("seen: UNKNOWN ahead of FULL", x.seen(12, true), UNKNOWN);
         due("seen: 8", x.told(6), 8);
+        x.forget();
+        due("seen(11)", x.seen(11, true), 1);
     }
 
     // Promise 20
@@ -556,6 +572,16 @@ public final class DoorVoicePromises {
         fraction(x, 0, 3, -1, 3, 1);
         x.house(4, true, false, 0);
         fraction(x, 0, 3, -1, 3, 1);
+        DoorVoice mixed = new DoorVoice();
+        // 3 loud on both sides, then 2 and 1 loud to the west, nothing behind the WALL to the east
+        mixed.wall(6, 9);
+        fraction(mixed, 5, 2, 1, 0, 1);
+        fraction(mixed, 5, 2, 2, 16, 25);
+        fraction(mixed, 5, 2, 3, 24, 25);
+        fraction(mixed, 5, 2, 4, 1, 1);
+        fraction(mixed, 5, 2, -1, 12, 5);
+        fraction(mixed, 11, 2, 0, 0, 1);
+        fraction(mixed, 11, 2, 1, 16, 25);
         due("chance: UNKNOWN", x.chance(12, 11, 12, 2), LOST + UNKNOWN);
         due("chance: UNKNOWN", x.chance(-1, 0, 0, 0), LOST + UNKNOWN);
         due("chance: t 11", x.chance(0, 11, 0, 0), LOST + OUTSIDE);
