@@ -12,8 +12,10 @@ import java.util.regex.Pattern;
 public final class DoorVoiceAgainstModel {
     private static final int NONE = -6, UNKNOWN = -1, OUTSIDE = -2, STATE = -3, FULL = -4, NO = -5;
     private static final long LOST = -1000000000000000000L;
-    private static final int RUNS = 1500;
+    private static final int RUNS = 2000;
+    /** What an object answers behind its 512th call is free; a step makes 8 calls at most. */
     private static final int CALLS = 512;
+    private static final int CALLS_A_STEP = 8;
 
     public static void main(String[] args) {
         int wrong = 0;
@@ -41,8 +43,8 @@ public final class DoorVoiceAgainstModel {
         }
 
         boolean isAsDue() {
-            for (int i = 0; i < CALLS; i++) {
-                if (!callOnce()) return false;
+            while (calls.size() + CALLS_A_STEP <= CALLS) {
+                if (!stepOnce()) return false;
             }
             return true;
         }
@@ -64,7 +66,7 @@ public final class DoorVoiceAgainstModel {
             return least + draw.nextInt(most - least + 1);
         }
 
-        private boolean callOnce() {
+        private boolean stepOnce() {
             int kind = draw.nextInt(56);
             if (kind < 12) return change(kind);
             if (kind < 22) return write();

@@ -695,6 +695,7 @@ public final class DoorVoicePromises {
             if (known) given++;
         }
         due("told: how many", given, 9 + 12 + 11 + 24);
+        x = new DoorVoice();
         due("told(least)", x.told(LEAST), OUTSIDE);
         due("told(most)", x.told(MOST), OUTSIDE);
         x.set(1, -3);
