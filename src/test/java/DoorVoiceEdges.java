@@ -620,6 +620,8 @@ public final class DoorVoiceEdges {
         run("letter(5, 11, 0, 0, 0) house(11, true, true, 0) round(32, 0)=NONE round(32, 1)=NONE round(63, 0)=NONE round(63, 1)=NONE round(31, 0)=0 round(31, 1)=0");
         sentence("18: from end to end");
         run("set(0, 1) letter(0, 11, 0, 0, 0) round(1, 0)=11 round(1, 1)=0 round(62, 0)=0 set(2, 11) round(62, 0)=11 round(62, 1)=0 round(1, 0)=0 round(1, 1)=11 round(63, 0)=11 round(63, 1)=0");
+        sentence("18: one step from the first HOUSE, and from the last");
+        run("set(0, 1) letter(0, 1, 0, 0, 0) letter(1, 10, 0, 0, 0) round(1, 0)=1 round(1, 1)=0 set(2, 11) round(2, 0)=1 round(2, 1)=10 set(2, 10) letter(2, 11, 0, 0, 0) round(4, 0)=1 round(4, 1)=10 set(2, 1) round(8, 0)=1 round(8, 1)=0");
         sentence("18: to both ends, the nearer first");
         run("set(0, 1) letter(0, 11, 0, 0, 0) set(2, 5) round(63, 0)=16 round(63, 1)=0 set(2, 6) round(63, 0)=16 round(63, 1)=0 set(2, 1) round(63, 0)=12 set(2, 10) round(63, 0)=12 set(2, 0) round(63, 0)=11");
         sentence("18: only as far as it is heard, from the west and from the east");
